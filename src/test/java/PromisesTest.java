@@ -317,6 +317,14 @@ public final class PromisesTest {
         sees("8 pay slid", x, 2, 0, Long.MAX_VALUE);
         x.hang(3, 2, 0);
         due.answer("8 row of 0", 0, () -> x.slide(3, 0, 0));
+        x.hang(4, 3, 40);
+        x.note(4, 20, 8);
+        x.note(4, 39, 9);
+        due.answer("8 forty later", 0, () -> x.slide(4, 20, 19));
+        due.answer("8 forty slid later", 8, () -> x.at(4, 39));
+        due.answer("8 forty earlier", 0, () -> x.slide(4, 39, -39));
+        due.answer("8 forty slid earlier", 8, () -> x.at(4, 0));
+        due.answer("8 forty have 0 behind", 0, () -> x.at(4, 39));
     }
 
     private static void slid(String name, DutyRota x, int i, int k, long... want) {
