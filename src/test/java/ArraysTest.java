@@ -15,7 +15,8 @@ import java.util.function.LongSupplier;
 public final class ArraysTest {
     private static final int RUNS = 6000;
     private static final int[] STRANGE = {
-        Integer.MIN_VALUE, Integer.MIN_VALUE + 1, -41, -2, -1, 7, 8, 40, 41, 60, Integer.MAX_VALUE - 1, Integer.MAX_VALUE};
+        Integer.MIN_VALUE, Integer.MIN_VALUE + 1, -41, -2, -1, 7, 8, 40, 41, 60, Integer.MAX_VALUE - 1,
+        Integer.MAX_VALUE};
 
     private static final Due due = new Due();
 
@@ -193,10 +194,19 @@ public final class ArraysTest {
 
         private void both(String name, LongSupplier ours, LongSupplier theirs, long... arguments) {
             String call = name + Arrays.toString(arguments);
-            String want = Due.seen(theirs);
+            String want = seen(theirs);
             told.append(call).append(' ').append(want).append("; ");
-            String got = Due.seen(ours);
+            String got = seen(ours);
             due.same(got.equals(want) ? call : "run " + number + ": " + told, want, got);
+        }
+    }
+
+    /** The answer as a text, or throws.Name of what the call threw. */
+    private static String seen(LongSupplier call) {
+        try {
+            return Long.toString(call.getAsLong());
+        } catch (RuntimeException e) {
+            return "throws." + e.getClass().getSimpleName();
         }
     }
 
